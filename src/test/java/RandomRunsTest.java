@@ -4,6 +4,7 @@ import java.util.Random;
 public final class RandomRunsTest {
     private static final int RUNS = 4000;
     private static final int CALLS = 512;
+    private static final int LAST_LOOK = 66;
 
     private final Expect expect = new Expect("RandomRunsTest");
     private ParityArray array;
@@ -29,10 +30,24 @@ public final class RandomRunsTest {
         if (seed % 3 == 0) {
             firstStripe = 0;
         }
+        int mixed = CALLS - LAST_LOOK;
         int made = 0;
-        while (made < CALLS) {
+        while (made < mixed) {
             run = "seed " + seed + " call " + (made + 1) + ": ";
-            made += callOne(firstStripe, stripes, CALLS - made);
+            made += callOne(firstStripe, stripes, mixed - made);
+        }
+        run = "seed " + seed + " last look: ";
+        lookAtStripe(firstStripe + random.nextInt(stripes));
+    }
+
+    /** Switches the power on, whatever was planned, and reads every long of a stripe. */
+    private void lookAtStripe(int s) {
+        callRecover();
+        callRecover();
+        for (int n = 4 * s; n < 4 * s + 4; n++) {
+            for (int i = 0; i < 16; i++) {
+                readBoth(n, i);
+            }
         }
     }
 
@@ -51,7 +66,7 @@ public final class RandomRunsTest {
                 callPower(i);
                 return 1;
             case 12: case 13: case 14:
-                same("recover()", () -> { array.recover(); return 0; }, () -> { model.recover(); return 0; });
+                callRecover();
                 return 1;
             case 15:
                 int d = random.nextInt(30) == 0 ? random.nextInt(9) - 2 : random.nextInt(5);
@@ -82,7 +97,15 @@ public final class RandomRunsTest {
     private void callGet(int block, int place) {
         int n = random.nextInt(40) == 0 ? random.nextInt(620) - 10 : block;
         int i = random.nextInt(40) == 0 ? random.nextInt(20) - 2 : place;
+        readBoth(n, i);
+    }
+
+    private void readBoth(int n, int i) {
         same("get(" + n + ", " + i + ")", () -> array.get(n, i), () -> model.get(n, i));
+    }
+
+    private void callRecover() {
+        same("recover()", () -> { array.recover(); return 0; }, () -> { model.recover(); return 0; });
     }
 
     private void callPower(int place) {
