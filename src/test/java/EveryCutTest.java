@@ -44,6 +44,9 @@ public final class EveryCutTest {
             x.replace();
             Given.rebuild(x, state == NEW_BEFORE ? s : s + 1);
         }
+        // The record on the parity's disk is of another block then, so that one cut short must not be taken for whole.
+        int other = 4 * s + (n + 1) % 4;
+        x.set(other, i, Given.valueOf(other));
         Given.cutSet(x, n, i, Given.NEW, k, b);
         x.recover();
         int came = bytesThatCame(state, unwell, n, k, b);

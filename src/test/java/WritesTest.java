@@ -91,6 +91,8 @@ public final class WritesTest {
         String what = state + ", write " + k + " cut after " + b + ": ";
         Given.fillStripe(x, 2, 15);
         x.set(9, 15, Given.OLD);
+        // The record on the parity's disk is of another block then, so that one cut short must not be taken for whole.
+        x.set(11, 15, Given.valueOf(11));
         Given.cutSet(x, 9, 15, Given.NEW, k, b);
         x.recover();
         expect.answers(what + "get", due, () -> x.get(9, 15));
@@ -224,6 +226,10 @@ public final class WritesTest {
             expectOff(expect, "at once", x);
             expect.answers("replace()", 0, x::replace);
             expectOff(expect, "after replace", x);
+            expect.answers("which is new", 0, () -> x.told(1));
+            expect.answers("it is new", 1, () -> x.told(2));
+            expect.answers("none of it is rebuilt", 0, () -> x.told(3));
+            expectOff(expect, "after told", x);
             x.power(0, 0, false);
             expectOff(expect, "after power", x);
             Given.cutRecover(x, k, 0);
@@ -243,7 +249,9 @@ public final class WritesTest {
         expect.answers("told(0) " + when, 0, () -> x.told(0));
         expect.refuses("set " + when, Expect.STATE, () -> x.set(9, 3, 1));
         expect.refuses("get " + when, Expect.STATE, () -> x.get(9, 3));
+        expect.refuses("die " + when, Expect.STATE, () -> x.die(0));
         expect.refuses("rebuild " + when, Expect.STATE, x::rebuild);
         expect.refuses("check " + when, Expect.STATE, x::check);
+        expect.answers("told(0) behind these, " + when, 0, () -> x.told(0));
     }
 }
