@@ -27,11 +27,13 @@ public final class FaceTest {
         Expect expect = new Expect("FaceTest");
         TreeSet<String> due = new TreeSet<>(Arrays.asList(FACE));
         TreeSet<String> seen = new TreeSet<>();
+        TreeSet<String> names = new TreeSet<>();
         for (Constructor<?> c : ParityArray.class.getDeclaredConstructors()) {
             note(seen, c.getModifiers(), c.toString());
         }
         for (Method m : ParityArray.class.getDeclaredMethods()) {
             note(seen, m.getModifiers(), m.toString());
+            expect.judge("no other method is named " + m.getName(), "true", Boolean.toString(names.add(m.getName())));
         }
         for (Field f : ParityArray.class.getDeclaredFields()) {
             note(seen, f.getModifiers(), f.toString());
